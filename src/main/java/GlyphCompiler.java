@@ -312,8 +312,12 @@ public final class GlyphCompiler {
         }
 
         void addAll(TokenRow other, int from, int to) {
-            for (int at = from; at < to; at++) {
-                add(other.kinds[at], other.values[at], other.depths[at]);
+            int more = Math.min(to - from, kinds.length - length);
+            if (from >= 0 && more > 0) {
+                System.arraycopy(other.kinds, from, kinds, length, more);
+                System.arraycopy(other.values, from, values, length, more);
+                System.arraycopy(other.depths, from, depths, length, more);
+                length += more;
             }
         }
 
@@ -679,7 +683,6 @@ public final class GlyphCompiler {
 
         /** False, with `at` at the error's place, if the tokens are no statement; else `at` is behind its end. */
         boolean readStatement() {
-            error = OK;
             keptCount = 0;
             legCount = 0;
             inRange = true;

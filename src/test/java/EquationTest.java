@@ -108,6 +108,8 @@ final class EquationTest {
     private static void sizesOfFactors() {
         GlyphCompiler x = after(TINY_X0 + " = 3/16 ( 1/16 ( 1/16 ( 1/16 ) ) ) ;");
         known(x, 0, 3 * ONE);
+        x = after("- " + TINY_X0 + " = 3/16 ( 1/16 ( 1/16 ( 1/16 ) ) ) ;");
+        known(x, 0, -3 * ONE);
         x = after(String.format(LARGEST_X, 1, 1, 1) + " = " + LARGEST + " ;");
         known(x, 1, ONE);
         x = after(String.format(LARGEST_X, 1, 1, 1) + " = " + String.format(LARGEST_X, 2, 2, 2) + " + 16 x0 ;");
@@ -264,6 +266,11 @@ final class EquationTest {
         free(x, 1);
         Script.run(x, "x1 = 1/16 ;");
         known(x, 0, 256);
+        x = after("x1 = " + TINY_X0 + " ;");
+        fails(x, "x0 = " + TINY + " ;", GlyphCompiler.RANGE);
+        dependent(x, 1, 0, 0, 1);
+        Script.run(x, "x0 = -1 ;");
+        known(x, 1, -1);
         // In a chain the forms that are equated must be numbers after the replacing.
         x = new GlyphCompiler();
         fails(x, "x0 = 2 = 1000 ( 1000 x0 ) ;", GlyphCompiler.RANGE);

@@ -157,6 +157,10 @@ final class ExpandingTest {
         replacements(x, 100);
         Script.run(x, "", GlyphCompiler.OK, 0);
         replacements(x, 0);
+        // As many tokens and as many replacements as there may be at once.
+        Script.macro(x, 1, 0, Script.repeat(";", 40));
+        Script.run(x, Script.repeat("@0", 93) + Script.repeat(";", 20) + Script.repeat("@1", 7), GlyphCompiler.OK, 300);
+        replacements(x, 100);
     }
 
     private static void errorsComeBeforeStatements() {

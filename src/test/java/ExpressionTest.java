@@ -76,6 +76,7 @@ final class ExpressionTest {
         range(x, "8/16 ( 1/16 ( 1/16 ( 1/16 ( 1/16 ) ) ) )");
         range(x, "-8/16 ( 1/16 ( 1/16 ( 1/16 ( 1/16 ) ) ) )");
         range(x, "16 ( 1/16 ( 1/16 ( 1/16 ( 1/16 ( 1/16 ) ) ) ) )");
+        range(x, "1/16 between ( 0 , 1/16 ( 1/16 ( 1/16 ( 1/16 ) ) ) )");
         range(x, "8/16 between ( 0 , 1/16 ( 1/16 ( 1/16 ( 1/16 ) ) ) )");
         range(x, "8/16 between ( 1/16 ( 1/16 ( 1/16 ( 1/16 ) ) ) , 0 )");
         // Two results that are no numbers do not make up for each other.

@@ -4,6 +4,7 @@ final class MacroTest {
         numbersOutOfRange();
         lengths();
         arguments();
+        onlyWhatIsThere();
         inPlaceOfAnother();
         Check.end();
     }
@@ -53,6 +54,18 @@ final class MacroTest {
                 Check.due("count(11)", x.count(11), right ? 3 : -2);
             }
         }
+    }
+
+    private static void onlyWhatIsThere() {
+        GlyphCompiler x = new GlyphCompiler();
+        Script.feed(x, "$2");
+        Check.due("macro(0, 2) of an argument alone", x.macro(0, 2), GlyphCompiler.REFUSED);
+        Check.due("wipe()", x.wipe(), 1);
+        // An argument that has been wiped is not in the way.
+        Script.feed(x, "; ; $2");
+        Check.due("wipe()", x.wipe(), 3);
+        Script.macro(x, 0, 0, "; ;");
+        Script.run(x, "@0", GlyphCompiler.OK, 2);
     }
 
     private static void inPlaceOfAnother() {

@@ -62,6 +62,8 @@ final class PaintTest {
         picture(after("fill ( 3 , 4 ) line ( 9 , 9 ) line cycle ;"), 0);
         x = after("fill ( 31 , 23 ) line ( 32 , 23 ) line ( 32 , 24 ) line ( 31 , 24 ) line cycle ;");
         edges(x, 31, 31, 23, 23);
+        x = after("fill ( 0 , 0 ) line ( 1 , 0 ) line ( 1 , 1 ) line ( 0 , 1 ) line cycle ;");
+        edges(x, 0, 0, 0, 0);
     }
 
     /** A middle on a left or lower side is inside, one on a right or upper side is not; the signs tell which. */
@@ -234,6 +236,10 @@ final class PaintTest {
                 Script.run(new GlyphCompiler(), text, GlyphCompiler.RANGE, Script.tokens(text).size() - 1);
             }
         }
+        // What an earlier path left behind is not looked at.
+        GlyphCompiler later = new GlyphCompiler();
+        Script.run(later, "fill ( 1 , 1 ) line ( 2 , 2 ) line ( x0 , x0 ) line cycle ;", GlyphCompiler.UNKNOWN, 20);
+        Script.run(later, "fill ( 1 , 1 ) line ( 2 , 2 ) line cycle ;");
         // An error leaves the picture as it is.
         GlyphCompiler x = after("fill " + SQUARE);
         String text = "erase ( 0 , 0 ) line ( 9 , 0 ) line ( 9 , 9 ) line ( 0 , 9 ) line ( 0 , x0 ) line cycle ;";
@@ -258,6 +264,18 @@ final class PaintTest {
         Script.run(x, "erase ( 0 , 0 ) " + Script.repeat("@1", 12) + "line cycle ;", GlyphCompiler.OK, 6 + 216 + 3);
         Script.run(x, "erase ( 0 , 0 ) " + Script.repeat("@1", 13) + "line cycle ;", GlyphCompiler.LONG, 6 + 234 + 2);
         Script.run(x, "erase ( 0 , 0 ) " + Script.repeat("@0", 48) + "line cycle ;", GlyphCompiler.LONG, 6 + 288 + 2);
+        // The last of twelve curves is drawn whole.
+        GlyphCompiler single = after("fill ( 0 , 0 ) curve ( 8 , 0 ) curve ( 8 , 8 ) curve ( 0 , 8 ) line cycle ;");
+        GlyphCompiler last = new GlyphCompiler();
+        Script.macro(last, 1, 0, curve.replace("6", "0"));
+        Script.run(last, "fill ( 0 , 0 ) " + Script.repeat("@1", 11) + "curve ( 8 , 0 ) curve ( 8 , 8 ) curve ( 0 , 8 ) line cycle ;",
+            GlyphCompiler.OK, 6 + 216 + 3);
+        for (int j = 0; j < 24; j++) {
+            for (int i = 0; i < 32; i++) {
+                Check.due("black(" + i + ", " + j + ")", last.black(i, j), single.black(i, j));
+            }
+        }
+        Check.due("count(1) > 30", last.count(1) > 30, true);
         // Long comes after the range of the expressions and before what is asked of the numbers.
         Script.run(x, "fill ( x0 , 99 ) " + Script.repeat("@0", 13) + "line cycle ;", GlyphCompiler.LONG, 6 + 78 + 2);
         Script.run(x, "fill ( 0 , 1000 ( 1000 ( 2 ) ) ) " + Script.repeat("@0", 13) + "line cycle ;", GlyphCompiler.RANGE, 12 + 78 + 2);
