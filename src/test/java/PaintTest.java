@@ -264,11 +264,11 @@ final class PaintTest {
         Script.run(x, "erase ( 0 , 0 ) " + Script.repeat("@1", 12) + "line cycle ;", GlyphCompiler.OK, 6 + 216 + 3);
         Script.run(x, "erase ( 0 , 0 ) " + Script.repeat("@1", 13) + "line cycle ;", GlyphCompiler.LONG, 6 + 234 + 2);
         Script.run(x, "erase ( 0 , 0 ) " + Script.repeat("@0", 48) + "line cycle ;", GlyphCompiler.LONG, 6 + 288 + 2);
-        // The last of twelve curves is drawn whole.
-        GlyphCompiler single = after("fill ( 0 , 0 ) curve ( 8 , 0 ) curve ( 8 , 8 ) curve ( 0 , 8 ) line cycle ;");
+        // The last of twelve curves is drawn whole, and so is the way back.
+        GlyphCompiler single = after("fill ( 8 , 0 ) curve ( 0 , 0 ) curve ( 0 , 8 ) curve ( 8 , 8 ) line cycle ;");
         GlyphCompiler last = new GlyphCompiler();
-        Script.macro(last, 1, 0, curve.replace("6", "0"));
-        Script.run(last, "fill ( 0 , 0 ) " + Script.repeat("@1", 11) + "curve ( 8 , 0 ) curve ( 8 , 8 ) curve ( 0 , 8 ) line cycle ;",
+        Script.macro(last, 1, 0, curve.replace("6", "8"));
+        Script.run(last, "fill ( 8 , 0 ) " + Script.repeat("@1", 11) + "curve ( 0 , 0 ) curve ( 0 , 8 ) curve ( 8 , 8 ) line cycle ;",
             GlyphCompiler.OK, 6 + 216 + 3);
         for (int j = 0; j < 24; j++) {
             for (int i = 0; i < 32; i++) {
