@@ -95,60 +95,16 @@ final class PaintTest {
 
     private static void curves() {
         // From the promise's own words: nine points, joined by straight pieces.
-        String quarter = "( 0 , 0 ) curve ( 8 , 0 ) curve ( 8 , 0 ) curve ( 8 , 8 ) line ( 0 , 8 ) line cycle ;";
-        GlyphCompiler x = after("fill " + quarter);
-        boolean[][] want = inside(new double[][] {{0, 0}, {8, 0}, {8, 0}, {8, 8}}, new double[][] {{0, 8}});
-        for (int j = 0; j < 24; j++) {
-            for (int i = 0; i < 32; i++) {
-                Check.due("black(" + i + ", " + j + ")", x.black(i, j), want[i][j]);
-            }
-        }
-        Check.due("count(1) > 40", x.count(1) > 40, true);
+        String quarter = "fill ( 0 , 0 ) curve ( 8 , 0 ) curve ( 8 , 0 ) curve ( 8 , 8 ) line ( 0 , 8 ) line cycle ;";
+        Area area = new Area(Area.curve(new double[][] {{0, 0}, {8, 0}, {8, 0}, {8, 8}}, new double[] {0, 8}));
+        area.due(after(quarter), quarter);
+        Check.due("points of a quarter > 40", area.size() > 40, true);
         // A curve whose four points are on a line is that line.
         picture(after("fill ( 0 , 0 ) line ( 6 , 0 ) curve ( 6 , 1 ) curve ( 6 , 2 ) curve ( 6 , 3 ) line ( 0 , 3 ) line cycle ;"), 0,
             "######", "######", "######");
         // With straight pieces between eighths less is filled than the smooth curve bounds.
-        x = after("fill ( 0 , 0 ) curve ( 0 , 96 ) curve ( 32 , 96 ) curve ( 32 , 0 ) line cycle ;");
-        want = inside(new double[][] {{0, 0}, {0, 96}, {32, 96}, {32, 0}}, new double[][] {});
-        for (int j = 0; j < 24; j++) {
-            for (int i = 0; i < 32; i++) {
-                Check.due("black(" + i + ", " + j + ")", x.black(i, j), want[i][j]);
-            }
-        }
-    }
-
-    /** The area of a curve and the points behind it; all coordinates are exact in doubles. */
-    private static boolean[][] inside(double[][] p, double[][] more) {
-        int points = 9 + more.length;
-        double[] xs = new double[points + 1];
-        double[] ys = new double[points + 1];
-        for (int k = 0; k < points; k++) {
-            double t = k / 8.0;
-            double s = 1 - t;
-            xs[k] = k > 8 ? more[k - 9][0] : s * s * s * p[0][0] + 3 * s * s * t * p[1][0] + 3 * s * t * t * p[2][0] + t * t * t * p[3][0];
-            ys[k] = k > 8 ? more[k - 9][1] : s * s * s * p[0][1] + 3 * s * s * t * p[1][1] + 3 * s * t * t * p[2][1] + t * t * t * p[3][1];
-        }
-        xs[points] = xs[0];
-        ys[points] = ys[0];
-        boolean[][] inside = new boolean[32][24];
-        for (int i = 0; i < 32; i++) {
-            for (int j = 0; j < 24; j++) {
-                int winding = 0;
-                for (int k = 0; k < points; k++) {
-                    winding += turn(xs[k], ys[k], xs[k + 1], ys[k + 1], i + 0.5, j + 0.5);
-                }
-                inside[i][j] = winding != 0;
-            }
-        }
-        return inside;
-    }
-
-    private static int turn(double a, double b, double c, double d, double x, double y) {
-        double side = (c - a) * (y - b) - (x - a) * (d - b);
-        if (b <= y && y < d && side > 0) {
-            return 1;
-        }
-        return d <= y && y < b && side < 0 ? -1 : 0;
+        String high = "fill ( 0 , 0 ) curve ( 0 , 96 ) curve ( 32 , 96 ) curve ( 32 , 0 ) line cycle ;";
+        new Area(Area.curve(new double[][] {{0, 0}, {0, 96}, {32, 96}, {32, 0}})).due(after(high), high);
     }
 
     private static void erasing() {
