@@ -237,7 +237,7 @@ final class AnswerBoundsTest {
 
     /** Each call changes what it is for and nothing beside. */
     private static void otherCallsChangeTheirOwn() {
-        Check.sentence("forget, clean, wipe and macro: nothing is promised beyond the state changes described");
+        Check.sentence("Nothing is promised beyond the answers and state changes described above");
         GlyphCompiler x = filled();
         Script.feed(x, "; ;");
         GlyphCompiler y = filled();

@@ -12,6 +12,7 @@ final class ProgramBoundsTest {
 
     public static void main(String[] args) {
         anyNumber();
+        oneAfterAnother();
         endOfTheRow();
         firstWrongToken();
         nesting();
@@ -59,6 +60,19 @@ final class ProgramBoundsTest {
         Script.run(x, "fill ( 1 , 1 ) line ( 1 , 1 ) ;", GlyphCompiler.SYNTAX, 12);
         Script.run(x, "erase ( 1 , 1 ) curve ( 1 , 1 ) curve ( 1 , 1 ) curve ( 1 , 1 ) ;", GlyphCompiler.SYNTAX, 24);
         Script.run(x, "fill line cycle ;", GlyphCompiler.SYNTAX, 1);
+    }
+
+    private static void oneAfterAnother() {
+        Check.sentence("STATEMENTS are read and carried out one after another.");
+        GlyphCompiler x = new GlyphCompiler();
+        Script.run(x, "show x0 ; x0 = 2 ;", GlyphCompiler.UNKNOWN, 2);
+        Script.run(x, "x0 = 2 ; show 3 x0 ; x1 = x0 + 1 ; show x1 ;");
+        Check.due("shown(1)", x.shown(1), 6 * 65536);
+        Check.due("shown(0)", x.shown(0), 3 * 65536);
+        // An error of the first comes before a wrong token of the second, and that before an error of the third.
+        Script.run(x, "show x5 ; show show ;", GlyphCompiler.UNKNOWN, 2);
+        Script.run(x, "show 9 ; show show ; show x5 ;", GlyphCompiler.SYNTAX, 4);
+        Check.due("shown(0)", x.shown(0), 9 * 65536);
     }
 
     private static void endOfTheRow() {
