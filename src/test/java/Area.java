@@ -54,11 +54,7 @@ final class Area {
 
     /** The area must be black and all else white. */
     void due(GlyphCompiler x, String text) {
-        for (int i = 0; i < 32; i++) {
-            for (int j = 0; j < 24; j++) {
-                Check.due("black(" + i + ", " + j + ") after " + text, x.black(i, j), inside[i][j]);
-            }
-        }
+        Check.due("the picture after " + text, Look.picture(x), Look.picture(inside));
         Check.due("count(1) after " + text, x.count(1), size());
     }
 }

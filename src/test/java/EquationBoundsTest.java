@@ -185,6 +185,23 @@ final class EquationBoundsTest {
         leaves("2 x2 = x0 - x1 ; 2 x3 = x0 + x1 ; 2 x4 = 3 x5 ; x0 = x1 + 8 ;",
             " x0 = 524288 + 65536 x1 x2 = 262144 x3 = 262144 + 65536 x1 x4 = 0 + 98304 x5");
         leaves("2 x1 = x0 ; x0 = 0 ;", " x0 = 0 x1 = 0");
+        replacedWhateverItsFactor();
+    }
+
+    /** A factor of each size, of both signs: a power of 2, and one that is none. */
+    private static void replacedWhateverItsFactor() {
+        for (int power = -16; power < 0; power++) {
+            String times = Powers.times(power, "x0");
+            String back = " x0 = " + Powers.of(-power) + " ;";
+            leaves("x1 = " + times + " ;" + back, " x0 = " + (ONE << -power) + " x1 = " + ONE);
+            leaves("x1 = - " + times + " ;" + back, " x0 = " + (ONE << -power) + " x1 = " + -ONE);
+        }
+        for (int power = -16; power <= 18; power++) {
+            long factor = power < 0 ? 3 * (ONE >> -power) : 3 * (ONE << power);
+            String times = "3 ( " + Powers.times(power, "x0") + " )";
+            leaves("x1 = " + times + " ; x0 = x2 + 1 ;", " x0 = " + ONE + " + " + ONE + " x2 x1 = " + factor + " + " + factor + " x2");
+            leaves("x1 = - " + times + " ; x0 = 1 ;", " x0 = " + ONE + " x1 = " + -factor);
+        }
     }
 
     private static void rangeOfWhatIsSolved() {

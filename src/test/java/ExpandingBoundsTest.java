@@ -233,12 +233,19 @@ final class ExpandingBoundsTest {
         replacements(x, 0);
     }
 
-    private static void longRows() {
-        Check.sentence("If the ROW has more than 300 TOKENS then .. : error LONG.");
+    /** Macro 0 is of 40 tokens, 1 of two, 2 of none, and 3 takes its argument three times. */
+    private static GlyphCompiler rowMacros() {
         GlyphCompiler x = new GlyphCompiler();
         Script.macro(x, 0, 0, Script.repeat(";", 40));
         Script.macro(x, 1, 0, "; ;");
         Script.macro(x, 2, 0, "");
+        Script.macro(x, 3, 1, "$0 $0 $0");
+        return x;
+    }
+
+    private static void longRows() {
+        Check.sentence("If the ROW has more than 300 TOKENS then .. : error LONG.");
+        GlyphCompiler x = rowMacros();
         String seven = Script.repeat("@0", 7);
         Script.run(x, seven + Script.repeat(";", 18) + "@1", GlyphCompiler.OK, 300);
         replacements(x, 8);
@@ -252,50 +259,82 @@ final class ExpandingBoundsTest {
         Script.run(x, Script.repeat(";", 20) + "@2 " + seven, GlyphCompiler.OK, 300);
         Script.run(x, Script.repeat(";", 19) + seven + "@2", GlyphCompiler.OK, 299);
         // Tokens of arguments count as often as the body takes them.
-        Script.macro(x, 3, 1, "$0 $0 $0");
-        Script.run(x, "@3 ( " + Script.repeat(";", 100) + ")", GlyphCompiler.OK, 300);
-        Script.run(x, "@3 ( " + Script.repeat(";", 100) + ") ;", GlyphCompiler.LONG, 0);
-        Script.run(x, "; @3 ( " + Script.repeat(";", 100) + ")", GlyphCompiler.LONG, 1);
-        Script.run(x, "@3 ( " + Script.repeat(";", 101) + ")", GlyphCompiler.LONG, 0);
+        Script.run(rowMacros(), "@3 ( " + Script.repeat(";", 100) + ")", GlyphCompiler.OK, 300);
+        Script.run(rowMacros(), "@3 ( " + Script.repeat(";", 100) + ") ;", GlyphCompiler.LONG, 0);
+        Script.run(rowMacros(), "; @3 ( " + Script.repeat(";", 100) + ")", GlyphCompiler.LONG, 1);
+        Script.run(rowMacros(), "@3 ( " + Script.repeat(";", 101) + ")", GlyphCompiler.LONG, 0);
+        argumentsOfManyLengths();
         // No statement of a row that is too long is carried out.
-        int done = x.count(7);
+        x = rowMacros();
         Script.run(x, "show 1 ; @3 ( " + Script.repeat(";", 100) + ")", GlyphCompiler.LONG, 3);
-        Check.due("count(7)", x.count(7), done);
+        Check.due("count(7)", x.count(7), 0);
         Check.due("count(6)", x.count(6), 0);
+        Script.run(x, "; ;");
+        Script.run(x, "; ; @3 ( " + Script.repeat(";", 100) + ")", GlyphCompiler.LONG, 2);
+        Check.due("count(7)", x.count(7), 2);
+    }
+
+    /** Each argument counts with its own length, and one that the body does not take counts for nothing. */
+    private static void argumentsOfManyLengths() {
+        for (int taken = 0; taken < 3; taken++) {
+            String[] given = {"", "", ""};
+            given[taken] = Script.repeat(";", 100);
+            String body = Script.repeat("$" + taken, 3);
+            taking(body, given, 300);
+            given[taken] = Script.repeat(";", 101);
+            taking(body, given, 303);
+            given[(taken + 1) % 3] = Script.repeat(";", 7);
+            taking(body + "; $" + (taken + 2) % 3, given, 304);
+            String[] others = {Script.repeat(";", 50), Script.repeat(";", 50), Script.repeat(";", 50)};
+            others[taken] = "; ;";
+            taking(Script.repeat("$" + taken, 40), others, 80);
+        }
+        String[] given = {Script.repeat(";", 10), Script.repeat(";", 20), Script.repeat(";", 40)};
+        taking("$0 $1 $2 $2 $2 $2 $2 $1 $1 $0 $0 $0", given, 300);
+        taking("$0 $1 $2 $2 $2 $2 $2 $1 $1 $0 $0 $0 ;", given, 301);
+    }
+
+    /** The body taking the arguments: a row of that length, or too long a one. */
+    private static void taking(String body, String[] given, int length) {
+        GlyphCompiler x = new GlyphCompiler();
+        Script.macro(x, 4, 3, body);
+        boolean right = length <= 300;
+        Script.run(x, "@4 ( " + String.join(" , ", given) + " )", right ? GlyphCompiler.OK : GlyphCompiler.LONG, right ? length : 0);
+        replacements(x, 1);
+    }
+
+    /** Runs the text on a new object: macro 0 and macro 1, which has a parameter, have no tokens, macro 3 has 40. */
+    private static void counted(String text, int error, int place, int replacements) {
+        GlyphCompiler x = new GlyphCompiler();
+        Script.macro(x, 0, 0, "");
+        Script.macro(x, 1, 1, "");
+        Script.macro(x, 3, 0, Script.repeat(";", 40));
+        Script.run(x, text, error, place);
+        replacements(x, replacements);
+        // They are counted anew in each run.
+        Script.run(x, Script.repeat("@0", 100), GlyphCompiler.OK, 0);
+        replacements(x, 100);
+        Script.run(x, "@0", GlyphCompiler.OK, 0);
+        replacements(x, 1);
+        Script.run(x, ";");
+        replacements(x, 0);
     }
 
     private static void manyReplacements() {
         Check.sentence("or this was the 101st replacement: error LONG.");
-        GlyphCompiler x = new GlyphCompiler();
-        Script.macro(x, 0, 0, "");
-        Script.macro(x, 1, 1, "");
         String hundred = Script.repeat("@0", 100);
-        Script.run(x, Script.repeat("@0", 99), GlyphCompiler.OK, 0);
-        replacements(x, 99);
-        Script.run(x, hundred, GlyphCompiler.OK, 0);
-        replacements(x, 100);
-        Script.run(x, hundred + "@0", GlyphCompiler.LONG, 0);
-        replacements(x, 101);
-        Script.run(x, "; " + hundred + "; @0 ;", GlyphCompiler.LONG, 2);
-        replacements(x, 101);
-        Script.run(x, hundred + "; @1 ( )", GlyphCompiler.LONG, 1);
+        counted(Script.repeat("@0", 99), GlyphCompiler.OK, 0, 99);
+        counted(hundred, GlyphCompiler.OK, 0, 100);
+        counted(hundred + "@0", GlyphCompiler.LONG, 0, 101);
+        counted("; " + hundred + "; @0 ;", GlyphCompiler.LONG, 2, 101);
+        counted(hundred + "; @1 ( )", GlyphCompiler.LONG, 1, 101);
         // What is no replacement is not the 101st.
-        Script.run(x, hundred + "; @1 (", GlyphCompiler.SHAPE, 1);
-        replacements(x, 100);
-        Script.run(x, hundred + "; @2", GlyphCompiler.UNDEFINED, 1);
-        replacements(x, 100);
-        Script.run(x, hundred + "; $0", GlyphCompiler.STRAY, 1);
-        replacements(x, 100);
-        Script.run(x, hundred + "show 1 ;", GlyphCompiler.OK, 3);
+        counted(hundred + "; @1 (", GlyphCompiler.SHAPE, 1, 100);
+        counted(hundred + "; @2", GlyphCompiler.UNDEFINED, 1, 100);
+        counted(hundred + "; $0", GlyphCompiler.STRAY, 1, 100);
+        counted(hundred + "show 1 ;", GlyphCompiler.OK, 3, 100);
         // As many as there may be, in a row as long as it may be.
-        Script.macro(x, 3, 0, Script.repeat(";", 40));
-        Script.run(x, Script.repeat("@0", 93) + Script.repeat(";", 20) + Script.repeat("@3", 7), GlyphCompiler.OK, 300);
-        replacements(x, 100);
-        Script.run(x, Script.repeat("@0", 93) + Script.repeat(";", 19) + Script.repeat("@3", 7) + "@0", GlyphCompiler.LONG, 299);
-        replacements(x, 101);
-        // They are counted anew in each run.
-        Script.run(x, hundred, GlyphCompiler.OK, 0);
-        Script.run(x, "@0", GlyphCompiler.OK, 0);
-        replacements(x, 1);
+        counted(Script.repeat("@0", 93) + Script.repeat(";", 20) + Script.repeat("@3", 7), GlyphCompiler.OK, 300, 100);
+        counted(Script.repeat("@0", 93) + Script.repeat(";", 19) + Script.repeat("@3", 7) + "@0", GlyphCompiler.LONG, 299, 101);
     }
 }

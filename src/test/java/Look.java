@@ -54,4 +54,32 @@ final class Look {
         }
         return text.toString();
     }
+
+    /** The same text for a picture that is due, with black[i][j] for its points. */
+    static String picture(boolean[][] black) {
+        StringBuilder text = new StringBuilder();
+        for (int j = 0; j < 24; j++) {
+            StringBuilder row = new StringBuilder();
+            for (int i = 0; i < 32; i++) {
+                row.append(black[i][j] ? '#' : '.');
+            }
+            String upToBlack = row.substring(0, row.lastIndexOf("#") + 1);
+            text.append(upToBlack.isEmpty() ? "" : j + ":" + runs(upToBlack));
+        }
+        return text.toString();
+    }
+
+    private static String runs(String row) {
+        StringBuilder text = new StringBuilder();
+        int from = 0;
+        for (char colour = '.'; from < row.length(); colour = colour == '.' ? '#' : '.') {
+            int to = from;
+            while (to < row.length() && row.charAt(to) == colour) {
+                to++;
+            }
+            text.append(to - from).append(colour).append(' ');
+            from = to;
+        }
+        return text.toString();
+    }
 }

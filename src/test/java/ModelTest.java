@@ -4,9 +4,18 @@ import java.util.Random;
 
 /** All promises: runs made up at random, from fixed seeds, against the model. */
 final class ModelTest {
-    private static final int OBJECTS = 400;
-    private static final int RUNS = 10;
+    private static final int OBJECTS = 3000;
     private static final int LEAST_OF_EACH_ERROR = 5;
+
+    /** An object is good for so many calls; the tokens of a program and of a body, at most; what is asked after a run. */
+    private static final int CALLS_MOST = 512;
+    private static final int PROGRAM_MOST = 125;
+    private static final int BODY_MOST = 42;
+    private static final int LOOKS = 30;
+
+    /** What a definition and what a run take of the calls, at most. */
+    private static final int DEFINING = BODY_MOST + 5;
+    private static final int RUNNING = PROGRAM_MOST + 5 + LOOKS;
 
     private final Random random;
     private final GlyphCompiler x = new GlyphCompiler();
@@ -14,6 +23,7 @@ final class ModelTest {
     private final int[] errors;
     private final StringBuilder story = new StringBuilder();
     private final int[] parameters = {-1, -1, -1, -1, -1, -1};
+    private int calls;
 
     private ModelTest(long seed, int[] errors) {
         random = new Random(seed);
@@ -36,11 +46,11 @@ final class ModelTest {
     }
 
     private void compare() {
-        for (int run = 0; run < RUNS; run++) {
-            while (chance(2)) {
+        while (callsLeft() > RUNNING) {
+            while (!chance(3) && callsLeft() > DEFINING + RUNNING) {
                 define();
             }
-            feed(spoilt(program()));
+            feed(spoilt(program()), PROGRAM_MOST);
             runBoth();
             if (chance(5)) {
                 story.append(" forget");
@@ -50,11 +60,17 @@ final class ModelTest {
                 story.append(" clean");
                 same("clean()", x.clean(), model.clean());
             }
-            lookAtAll();
+            look(LOOKS);
         }
+        look(callsLeft());
+    }
+
+    private int callsLeft() {
+        return CALLS_MOST - calls;
     }
 
     private void same(String call, long got, long want) {
+        calls++;
         if (got != want) {
             System.out.println(story);
         }
@@ -69,9 +85,10 @@ final class ModelTest {
         return least + random.nextInt(greatest - least + 1);
     }
 
-    private void feed(String text) {
+    private void feed(String text, int most) {
         story.append(" / ").append(text);
-        for (int[] token : Script.tokens(text)) {
+        List<int[]> tokens = Script.tokens(text);
+        for (int[] token : tokens.subList(0, Math.min(tokens.size(), most))) {
             same("feed", x.feed(token[0], token[1]), model.feed(token[0], token[1]));
         }
         if (chance(30)) {
@@ -87,7 +104,7 @@ final class ModelTest {
     private void define() {
         int n = number(0, 3);
         int m = chance(20) ? number(-1, 6) : number(0, 5);
-        feed(spoilt(body(n)));
+        feed(spoilt(body(n)), BODY_MOST);
         int answer = model.macro(m, n);
         story.append(" macro(").append(m).append(", ").append(n).append(")");
         same("macro", x.macro(m, n), answer);
@@ -102,27 +119,41 @@ final class ModelTest {
         errors[-error]++;
     }
 
-    private void lookAtAll() {
-        same("place()", x.place(), model.place());
-        for (int what = -1; what <= 15; what++) {
-            same("count(" + what + ")", x.count(what), model.count(what));
-        }
-        for (int v = -1; v <= 12; v++) {
-            same("state(" + v + ")", x.state(v), model.state(v));
-            same("number(" + v + ")", x.number(v), model.number(v));
-            for (int w = -1; w <= 12; w++) {
-                same("factor(" + v + ", " + w + ")", x.factor(v, w), model.factor(v, w));
+    /** Asks for so many answers: more than an object has calls could be asked for, so chance takes some of them. */
+    private void look(int answers) {
+        for (int answer = 0; answer < answers; answer++) {
+            int v = number(-1, 12);
+            int j = number(-1, 24);
+            switch (random.nextInt(8)) {
+                case 0:
+                    same("place()", x.place(), model.place());
+                    break;
+                case 1:
+                    int what = number(-1, 15);
+                    same("count(" + what + ")", x.count(what), model.count(what));
+                    break;
+                case 2:
+                    same("state(" + v + ")", x.state(v), model.state(v));
+                    break;
+                case 3:
+                    same("number(" + v + ")", x.number(v), model.number(v));
+                    break;
+                case 4:
+                    int w = number(-1, 12);
+                    same("factor(" + v + ", " + w + ")", x.factor(v, w), model.factor(v, w));
+                    break;
+                case 5:
+                    int k = number(-1, 8);
+                    same("shown(" + k + ")", x.shown(k), model.shown(k));
+                    break;
+                case 6:
+                    int i = number(-1, 32);
+                    same("black(" + i + ", " + j + ")", x.black(i, j) ? 1 : 0, model.black(i, j) ? 1 : 0);
+                    break;
+                default:
+                    int run = number(-1, 6);
+                    same("stretch(" + j + ", " + run + ")", x.stretch(j, run), model.stretch(j, run));
             }
-        }
-        for (int k = -1; k <= 8; k++) {
-            same("shown(" + k + ")", x.shown(k), model.shown(k));
-        }
-        for (int j = -1; j <= 24; j++) {
-            for (int i = -1; i <= 32; i++) {
-                same("black", x.black(i, j) ? 1 : 0, model.black(i, j) ? 1 : 0);
-            }
-            int k = number(-1, 6);
-            same("stretch(" + j + ", " + k + ")", x.stretch(j, k), model.stretch(j, k));
         }
     }
 
@@ -174,7 +205,8 @@ final class ModelTest {
             return ";";
         }
         StringBuilder text = new StringBuilder("@" + m);
-        for (int a = 0; a < parameters[m]; a++) {
+        int given = chance(8) ? number(0, 3) : parameters[m];
+        for (int a = 0; a < given; a++) {
             text.append(a == 0 ? " ( " : " , ");
             switch (random.nextInt(4)) {
                 case 0:
@@ -187,7 +219,7 @@ final class ModelTest {
                     text.append(expression(1));
             }
         }
-        return text.append(parameters[m] > 0 ? " ) " : " ").toString();
+        return text.append(given > 0 ? " ) " : " ").toString();
     }
 
     private String statement() {

@@ -14,8 +14,9 @@ final class NewObjectTest {
         }
         for (int j = 0; j < 24; j++) {
             Check.due("stretch(" + j + ", 0)", x.stretch(j, 0), -2);
+            GlyphCompiler fresh = new GlyphCompiler();
             for (int i = 0; i < 32; i++) {
-                Check.due("black(" + i + ", " + j + ")", x.black(i, j), false);
+                Check.due("black(" + i + ", " + j + ")", fresh.black(i, j), false);
             }
         }
         Check.due("shown(0)", x.shown(0), GlyphCompiler.NONE);

@@ -118,6 +118,13 @@ final class NumberBoundsTest {
             range("0 ( - " + Powers.times(-17, x) + " )");
             range("2 between ( 0 , " + Powers.times(20, x) + " )");
             range("8/16 between ( " + Powers.times(-16, x) + " , 0 )");
+            // A term's factor, though the sum's would be right.
+            range(Powers.times(21, x) + " - " + Powers.times(20, x));
+            range(Powers.times(20, x) + " - " + Powers.times(21, x));
+            range(Powers.times(-17, x) + " + " + Powers.times(-17, x));
+            range("2 between ( 0 , " + Powers.times(20, x) + " ) - " + Powers.times(20, x));
+            range("- 17/16 ( " + Powers.times(20, x) + " ) + " + Powers.times(20, x));
+            shows(Powers.times(20, x) + " - " + Powers.times(20, x), 0);
             // The number beside a right factor.
             range(x + " + " + MOST + " + " + LEAST);
             range("2 ( " + x + " + " + MOST + " ) - 2 " + x + " - " + MOST);
@@ -175,23 +182,28 @@ final class NumberBoundsTest {
         shows(most + " + " + most + " - " + most + " - " + most, 0);
     }
 
-    private static void replaced() {
-        Check.sentence("DEPENDENT and KNOWN ones replaced by what they equal");
+    /** Three variables that are not free: the largest number, the least size below 0, and a form. */
+    private static GlyphCompiler notFree() {
         GlyphCompiler x = new GlyphCompiler();
         Script.run(x, "x0 = " + MOST + " ; x1 = - " + LEAST + " ; x2 = 3 ( " + Powers.times(18, "x3") + " ) + 1 ;");
-        Script.show(x, "x0", LARGEST);
-        Script.show(x, "x0 + x1", LARGEST - 1);
-        Script.show(x, "x2 - 3 ( " + Powers.times(18, "x3") + " )", Powers.ONE);
-        fails(x, "x0 - x1", GlyphCompiler.RANGE);
-        fails(x, "0 ( x0 - x1 )", GlyphCompiler.RANGE);
-        fails(x, "17/16 x0", GlyphCompiler.RANGE);
-        fails(x, "8/16 x1", GlyphCompiler.RANGE);
-        fails(x, "0 between ( 8/16 x1 , 0 )", GlyphCompiler.RANGE);
-        fails(x, "x2", GlyphCompiler.UNKNOWN);
-        fails(x, "2 x2", GlyphCompiler.RANGE);
-        fails(x, "x2 + " + Powers.times(18, "x3"), GlyphCompiler.UNKNOWN);
-        fails(x, "x2 + " + Powers.times(18, "x3") + " + " + Powers.times(-16, "x3"), GlyphCompiler.RANGE);
-        fails(x, "x2 + x0", GlyphCompiler.RANGE);
+        return x;
+    }
+
+    private static void replaced() {
+        Check.sentence("DEPENDENT and KNOWN ones replaced by what they equal");
+        Script.show(notFree(), "x0", LARGEST);
+        Script.show(notFree(), "x0 + x1", LARGEST - 1);
+        Script.show(notFree(), "x2 - 3 ( " + Powers.times(18, "x3") + " )", Powers.ONE);
+        fails(notFree(), "x0 - x1", GlyphCompiler.RANGE);
+        fails(notFree(), "0 ( x0 - x1 )", GlyphCompiler.RANGE);
+        fails(notFree(), "17/16 x0", GlyphCompiler.RANGE);
+        fails(notFree(), "8/16 x1", GlyphCompiler.RANGE);
+        fails(notFree(), "0 between ( 8/16 x1 , 0 )", GlyphCompiler.RANGE);
+        fails(notFree(), "x2", GlyphCompiler.UNKNOWN);
+        fails(notFree(), "2 x2", GlyphCompiler.RANGE);
+        fails(notFree(), "x2 + " + Powers.times(18, "x3"), GlyphCompiler.UNKNOWN);
+        fails(notFree(), "x2 + " + Powers.times(18, "x3") + " + " + Powers.times(-16, "x3"), GlyphCompiler.RANGE);
+        fails(notFree(), "x2 + x0", GlyphCompiler.RANGE);
     }
 
     private static void noted() {

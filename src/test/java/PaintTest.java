@@ -4,6 +4,7 @@ final class PaintTest {
 
     public static void main(String[] args) {
         squares();
+        blackPoints();
         middlesOnTheOutline();
         windings();
         curves();
@@ -27,14 +28,14 @@ final class PaintTest {
     /** Rows of the picture from the given one on: '#' is black; all other points must be white. */
     private static void picture(GlyphCompiler x, int first, String... rows) {
         int black = 0;
-        for (int j = 0; j < 24; j++) {
-            for (int i = 0; i < 32; i++) {
-                boolean there = j >= first && j < first + rows.length && i < rows[j - first].length();
-                boolean want = there && rows[j - first].charAt(i) == '#';
-                black += want ? 1 : 0;
-                Check.due("black(" + i + ", " + j + ")", x.black(i, j), want);
+        boolean[][] want = new boolean[32][24];
+        for (int row = 0; row < rows.length; row++) {
+            for (int i = 0; i < rows[row].length(); i++) {
+                want[i][first + row] = rows[row].charAt(i) == '#';
+                black += want[i][first + row] ? 1 : 0;
             }
         }
+        Check.due("the picture", Look.picture(x), Look.picture(want));
         Check.due("count(1)", x.count(1), black);
     }
 
@@ -64,6 +65,17 @@ final class PaintTest {
         edges(x, 31, 31, 23, 23);
         x = after("fill ( 0 , 0 ) line ( 1 , 0 ) line ( 1 , 1 ) line ( 0 , 1 ) line cycle ;");
         edges(x, 0, 0, 0, 0);
+    }
+
+    /** Every point by itself, a row to an object: the points of a picture are more than an object's calls. */
+    private static void blackPoints() {
+        for (int j = 0; j < 24; j++) {
+            GlyphCompiler x = after("fill ( 0 , 0 ) line ( 24 , 24 ) line ( 0 , 24 ) line cycle ; "
+                + "fill ( 32 , 0 ) line ( 32 , 8 ) line ( 29 , 8 ) line ( 29 , 0 ) line cycle ;");
+            for (int i = 0; i < 32; i++) {
+                Check.due("black(" + i + ", " + j + ")", x.black(i, j), i < j || i >= 29 && j < 8);
+            }
+        }
     }
 
     /** A middle on a left or lower side is inside, one on a right or upper side is not; the signs tell which. */
@@ -226,11 +238,7 @@ final class PaintTest {
         Script.macro(last, 1, 0, curve.replace("6", "8"));
         Script.run(last, "fill ( 8 , 0 ) " + Script.repeat("@1", 11) + "curve ( 0 , 0 ) curve ( 0 , 8 ) curve ( 8 , 8 ) line cycle ;",
             GlyphCompiler.OK, 6 + 216 + 3);
-        for (int j = 0; j < 24; j++) {
-            for (int i = 0; i < 32; i++) {
-                Check.due("black(" + i + ", " + j + ")", last.black(i, j), single.black(i, j));
-            }
-        }
+        Check.due("the picture of twelve curves", Look.picture(last), Look.picture(single));
         Check.due("count(1) > 30", last.count(1) > 30, true);
         // Long comes after the range of the expressions and before what is asked of the numbers.
         Script.run(x, "fill ( x0 , 99 ) " + Script.repeat("@0", 13) + "line cycle ;", GlyphCompiler.LONG, 6 + 78 + 2);

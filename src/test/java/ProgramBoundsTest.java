@@ -156,6 +156,7 @@ final class ProgramBoundsTest {
         Script.run(x, "show " + eight + "1 + 2 x0 (", GlyphCompiler.SYNTAX, 13);
         Script.run(x, "show " + eight + "x0 (", GlyphCompiler.SYNTAX, 10);
         // The open of a pair does not count, and a close gives back what its open took.
+        x = new GlyphCompiler();
         String deepest = eight + "1 " + Script.repeat(")", 8);
         Script.run(x, "erase ( " + deepest + ", " + deepest + ") line ( " + deepest + ", 1 ) line cycle ;");
         Script.run(x, "show " + deepest + "+ " + deepest + "- 0 between ( 1 , 2 ) + " + deepest + ";");
